@@ -712,7 +712,7 @@ public final class RealSolver {
         /** Follows Euclid on the leading bits as long as all of the numbers would go the same way. */
         private boolean findFactors(int x, int y) {
             int shift = bitsOf(x) - WINDOW;
-            if (shift < 0) {
+            if (shift < 0 || compareSizes(x, y) < 0) {
                 return false;
             }
             long hx = window(x, shift);
@@ -1657,9 +1657,7 @@ public final class RealSolver {
                     level[v] = constant(0);
                 }
             }
-            int f = level[0];
-            divideTerms(f, content(f));
-            return f;
+            return reduce(level[0], 0);
         }
 
         private int powerIn(int powers, int v) {
