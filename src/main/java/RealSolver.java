@@ -1255,8 +1255,8 @@ public final class RealSolver {
      * product below all others: so whatever multiplies the polynomial multiplies the divisor too.
      */
     private static final class Ideal {
-        static final int MOST = 160;
-        static final int MOST_PAIRS = 2000;
+        static final int MOST = 64;
+        static final int MOST_PAIRS = 256;
         static final int MOST_STEPS = 1000000;
         static final int DIVISOR = -(1 << 30);
         static final int SLACK = 64;
@@ -2487,7 +2487,7 @@ public final class RealSolver {
             int divisor = commonDivisor();
             int highest = n > 0 ? Powers.degree(quotient.stairKey[n - 1]) : 0;
             int power = numbers.of(1);
-            for (int i = 0; i < n; i++) {
+            for (int i = 0; i <= n; i++) {
                 Arrays.fill(row[i], Numbers.ZERO);
             }
             for (int i = n - 1; i >= 0; i--) {
