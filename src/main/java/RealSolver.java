@@ -177,7 +177,7 @@ public final class RealSolver {
         }
         pen.clear();
         pen.writeInT(points.fractions[v]);
-        pen.writeDivisor(points.fractionDivisor[v]);
+        pen.writeDivisor(points.fractions[v].divisor);
         return answer(pen.size);
     }
 
@@ -232,7 +232,7 @@ public final class RealSolver {
         int most = 0;
         for (int i = 0; i < points.realCount(); i++) {
             for (int v = 1; v <= variableCount; v++) {
-                points.rankOf(i, v);
+                points.roots[v].refine(points.rankOf(i, v), FINEST);
             }
             for (int j = 0; j < i; j++) {
                 most = Math.max(most, points.levelThatParts(i, j));
@@ -358,7 +358,7 @@ public final class RealSolver {
         static final int WINDOW = 62;
         static final int MOST_ROUNDS = 1000000;
 
-        int[] w = new int[1 << 13];
+        int[] w = new int[1 << 12];
         int top = FIRST_FREE;
         // Two rows of factors, a step of Lehmer's: x, y become (ax x + ay y), (bx x + by y).
         private long ax;
@@ -861,20 +861,17 @@ public final class RealSolver {
             return (key + (1 << DEGREE) - 1) >> DEGREE;
         }
 
-        private static int lowPart(int key) {
-            return (degree(key) << DEGREE) - key;
-        }
-
         static int z(int key) {
-            return lowPart(key) >> Z;
+            return -key >> Z & LOW;
         }
 
         static int y(int key) {
-            return lowPart(key) & LOW;
+            return -key & LOW;
         }
 
         static int x(int key) {
-            return degree(key) - y(key) - z(key);
+            int degree = (key + (1 << DEGREE) - 1) >> DEGREE;
+            return degree - (-key & LOW) - (-key >> Z & LOW);
         }
 
         /** The power product of one variable, 1 to 3. */
@@ -888,7 +885,7 @@ public final class RealSolver {
         }
 
         static boolean divides(int a, int b) {
-            return a <= b && x(a) <= x(b) && y(a) <= y(b) && z(a) <= z(b);
+            return a <= b && y(a) <= y(b) && z(a) <= z(b) && x(a) <= x(b);
         }
 
         static int leastCommonMultiple(int a, int b) {
@@ -896,11 +893,15 @@ public final class RealSolver {
         }
     }
 
-    /** A polynomial in t: where its coefficients stand, the lowest first; DEGREE -1 for 0. */
+    /**
+     * A polynomial in t: where its coefficients stand, the lowest first; DEGREE -1 for 0; and the
+     * divisor of all of them, where there is one.
+     */
     private static final class InT {
         static final int ROOM = MOST_STAIRS + 1;
         int degree = -1;
         final int[] at = new int[ROOM];
+        int divisor;
 
         void set(InT other) {
             degree = other.degree;
@@ -913,16 +914,18 @@ public final class RealSolver {
         static final int MOST_POLYNOMIALS = 5;
         static final int REST_DEGREE = 20;
         static final int MOST_DIGITS = 4;
+        // A term takes two bytes at least, its sign being one of them.
+        static final int MOST_TERMS = TAPE_ROOM / 2;
 
-        private byte[] bytes;
+        private byte[] bytes = new byte[0];
         private int size;
         private int at;
         private int variableCount;
         private int mostDegree;
         // The terms of all polynomials: power product, and the powers as x, y, z bytes of an int.
-        final int[] key = new int[TAPE_ROOM];
-        final int[] powers = new int[TAPE_ROOM];
-        final int[] coefficient = new int[TAPE_ROOM];
+        final int[] key = new int[MOST_TERMS];
+        final int[] powers = new int[MOST_TERMS];
+        final int[] coefficient = new int[MOST_TERMS];
         private int terms;
         final int[] firstTerm = new int[MOST_POLYNOMIALS + 2];
         int polynomials;
@@ -1058,7 +1061,7 @@ public final class RealSolver {
                     return;
                 }
             }
-            if (terms < TAPE_ROOM) {
+            if (terms < MOST_TERMS) {
                 key[terms] = newKey;
                 powers[terms] = newPowers;
                 coefficient[terms] = number;
@@ -1260,6 +1263,7 @@ public final class RealSolver {
         static final int MOST_STEPS = 1000000;
         static final int DIVISOR = -(1 << 30);
         static final int SLACK = 64;
+        static final int TERM_WORDS = 8;
 
         private final Numbers numbers;
         final int[] at = new int[MOST];
@@ -1297,39 +1301,36 @@ public final class RealSolver {
         }
 
         private int fromReader(Reader reader, int i) {
+            int most = reader.firstTerm[i + 1] - reader.firstTerm[i];
+            if (!numbers.fits(TERM_WORDS * (most + 1))) {
+                return Numbers.NO_TERMS;
+            }
             int f = start();
             int n = 0;
-            int bound = Integer.MAX_VALUE;
-            for (int t = reader.termBelow(i, bound); t >= 0; t = reader.termBelow(i, bound)) {
-                bound = reader.key[t];
-                addTerm(bound, reader.coefficient[t]);
-                n++;
+            int t = reader.termBelow(i, Integer.MAX_VALUE);
+            for (; n < most && t >= 0; n++) {
+                addTerm(reader.key[t], reader.coefficient[t]);
+                t = reader.termBelow(i, reader.key[t]);
             }
             return finish(f, n);
         }
 
+        /** Begins a polynomial for which room has been made. */
         private int start() {
-            if (!numbers.fits(2)) {
-                return Numbers.NO_TERMS;
-            }
             numbers.top += 2;
             return numbers.top - 2;
         }
 
         private int finish(int f, int terms) {
-            if (f >= Numbers.FIRST_FREE) {
-                numbers.w[f] = terms;
-                numbers.w[f + 1] = numbers.top - f;
-            }
+            numbers.w[f] = terms;
+            numbers.w[f + 1] = numbers.top - f;
             return f;
         }
 
         private void addTerm(int key, long coefficient) {
-            if (numbers.fits(8)) {
-                numbers.w[numbers.top] = key;
-                numbers.top++;
-                numbers.of(coefficient);
-            }
+            numbers.w[numbers.top] = key;
+            numbers.top++;
+            numbers.of(coefficient);
         }
 
         /** The polynomial at the row's end moves down to the mark. */
@@ -1564,7 +1565,7 @@ public final class RealSolver {
         /** Divides the row's last polynomial by a number that stands right behind it. */
         private void divideTerms(int f, int divisor) {
             int terms = numbers.w[f];
-            if (isUnit(divisor) || !numbers.fits(2 * numbers.w[f + 1] + SLACK)) {
+            if (isUnit(divisor) || !numbers.fits(4 * numbers.w[f + 1] + SLACK)) {
                 numbers.top = f < Numbers.FIRST_FREE ? numbers.top : f + numbers.w[f + 1];
                 return;
             }
@@ -1583,9 +1584,9 @@ public final class RealSolver {
         private void tidy() {
             int mark = numbers.top;
             int kept = 0;
-            for (int i = nextLive(-1); i >= 0; i = nextLive(lead[i])) {
+            for (int i = nextLive(-1); kept < MOST && i >= 0; kept++) {
                 multiple[kept] = i;
-                kept++;
+                i = nextLive(lead[i]);
             }
             for (int k = 0; k < kept; k++) {
                 int from = at[multiple[k]];
@@ -1623,10 +1624,7 @@ public final class RealSolver {
 
         /** A single power product, 1 being its divisor, reduced. */
         int normalFormOf(int key) {
-            int f = start();
-            addTerm(key, 1);
-            addTerm(DIVISOR, 1);
-            return reduce(finish(f, 2), 0);
+            return reduce(single(key, 1), 0);
         }
 
         int divisorOf(int f) {
@@ -1641,20 +1639,20 @@ public final class RealSolver {
         int normalForm(Reader reader) {
             int terms = reader.firstTerm[1];
             for (int v = 0; v < 3; v++) {
-                level[v] = constant(0);
+                level[v] = single(0, 0);
             }
             for (int i = 0; i < terms; i++) {
                 int powers = reader.powers[i];
                 int next = i + 1 < terms ? reader.powers[i + 1] : 0;
                 int deepest = i + 1 < terms ? firstDifference(powers, next) : 0;
-                addInto(level[2], constant(reader.coefficient[i]), 2);
+                addInto(level[2], single(0, reader.coefficient[i]), 2);
                 for (int v = 2; v > deepest; v--) {
                     raise(v, powerIn(powers, v));
                     addInto(level[v - 1], level[v], v - 1);
                 }
                 raise(deepest, powerIn(powers, deepest) - powerIn(next, deepest));
                 for (int v = deepest + 1; v < 3; v++) {
-                    level[v] = constant(0);
+                    level[v] = single(0, 0);
                 }
             }
             return reduce(level[0], 0);
@@ -1668,13 +1666,17 @@ public final class RealSolver {
             return powerIn(a, 0) != powerIn(b, 0) ? 0 : powerIn(a, 1) != powerIn(b, 1) ? 1 : 2;
         }
 
-        private int constant(int value) {
+        /** One term, if it is not 0, and the divisor 1. */
+        private int single(int key, int coefficient) {
+            if (!numbers.fits(4 * TERM_WORDS)) {
+                return Numbers.NO_TERMS;
+            }
             int f = start();
-            if (value != 0) {
-                addTerm(0, value);
+            if (coefficient != 0) {
+                addTerm(key, coefficient);
             }
             addTerm(DIVISOR, 1);
-            return finish(f, value != 0 ? 2 : 1);
+            return finish(f, coefficient != 0 ? 2 : 1);
         }
 
         /** The two last polynomials of the row, with their divisors, become their sum. */
@@ -2066,7 +2068,7 @@ public final class RealSolver {
         private final boolean[] met = new boolean[MOST_STAIRS];
         // The sign of the polynomial a little below the zero.
         private final int[] side = new int[MOST_STAIRS];
-        private final int[][] place = new int[MOST_STAIRS][8];
+        private final int[][] floor = new int[MOST_STAIRS][8];
         private final int[] moved = new int[InT.ROOM];
         private final int[] turned = new int[InT.ROOM];
 
@@ -2179,20 +2181,20 @@ public final class RealSolver {
         }
 
         private void store(int r, int c) {
-            int n = 1 + numbers.sizeOf(c);
-            if (place[r].length < n) {
-                place[r] = new int[2 * n];
+            int n = 1 + Math.abs(numbers.w[c]);
+            if (floor[r].length < n) {
+                floor[r] = new int[2 * n];
             }
-            System.arraycopy(numbers.w, c, place[r], 0, n);
+            System.arraycopy(numbers.w, c, floor[r], 0, n);
         }
 
         private int load(int r) {
-            int n = 1 + Math.abs(place[r][0]);
+            int n = 1 + Math.abs(floor[r][0]);
             if (!numbers.fits(n)) {
                 return Numbers.ZERO;
             }
             int c = numbers.top;
-            System.arraycopy(place[r], 0, numbers.w, c, n);
+            System.arraycopy(floor[r], 0, numbers.w, c, n);
             numbers.top = c + n;
             return c;
         }
@@ -2236,7 +2238,7 @@ public final class RealSolver {
                 int step = Math.min(fine, target - level[r]);
                 int c = load(r);
                 int guess = step == 1 ? numbers.add(numbers.shift(c, 1), numbers.of(1)) : chord(c, r, step);
-                boolean good = tryGuess(r, c, guess, step);
+                boolean good = tryGuess(r, guess, step);
                 numbers.top = mark;
                 fine = good ? 2 * fine : Math.max(1, fine / 2);
             }
@@ -2259,7 +2261,7 @@ public final class RealSolver {
         }
 
         /** Looks whether the zero lies right below or right above the guess. */
-        private boolean tryGuess(int r, int c, int guess, int step) {
+        private boolean tryGuess(int r, int guess, int step) {
             int k = level[r] + step;
             int sign = numbers.signOf(ring.value(of, guess, k));
             if (sign == 0) {
@@ -2285,6 +2287,11 @@ public final class RealSolver {
 
         int floorAt(int r, int k) {
             refine(r, k);
+            return knownFloor(r, k);
+        }
+
+        /** The floor of 2^k times a zero that is known as finely as that. */
+        int knownFloor(int r, int k) {
             return numbers.shift(load(r), k - level[r]);
         }
 
@@ -2439,7 +2446,6 @@ public final class RealSolver {
         private final Shadow shadow;
         final InT[] eliminants = new InT[4];
         final InT[] fractions = new InT[4];
-        final int[] fractionDivisor = new int[4];
         final Roots[] roots = new Roots[4];
         int formStep;
         final int[] multiple = new int[MOST_STAIRS];
@@ -2692,7 +2698,7 @@ public final class RealSolver {
                 lowestTerms(vector, d, MOST_STAIRS);
                 numbers.settle(mark, vector, MOST_STAIRS + 1);
                 System.arraycopy(vector, 0, fractions[v].at, 0, d);
-                fractionDivisor[v] = d > 0 ? vector[MOST_STAIRS] : numbers.of(1);
+                fractions[v].divisor = d > 0 ? vector[MOST_STAIRS] : numbers.of(1);
                 ring.trim(fractions[v]);
             }
         }
@@ -2777,8 +2783,8 @@ public final class RealSolver {
         private void setDifference(int v, int r) {
             int level = roots[v].level[r];
             int end = roots[v].upperEnd(r);
-            int times = numbers.shift(fractionDivisor[0], Math.max(0, level));
-            int away = numbers.mul(fractionDivisor[v], numbers.shift(end, Math.max(0, -level)));
+            int times = numbers.shift(fractions[0].divisor, Math.max(0, level));
+            int away = numbers.mul(fractions[v].divisor, numbers.shift(end, Math.max(0, -level)));
             int d = zeroCount();
             for (int i = 0; i < d; i++) {
                 int a = i <= fractions[v].degree ? fractions[v].at[i] : Numbers.ZERO;
@@ -2789,7 +2795,10 @@ public final class RealSolver {
             ring.trim(simple);
         }
 
-        /** The least k by which two real zeros lie in unlike boxes; above the finest for none. */
+        /**
+         * The least k by which two real zeros, known to the finest, lie in unlike boxes; above the
+         * finest for none.
+         */
         int levelThatParts(int i, int j) {
             int least = FINEST + 1;
             for (int v = 1; v <= quotient.variableCount; v++) {
@@ -2808,7 +2817,8 @@ public final class RealSolver {
             for (int i = 0; i < 10 && low < high; i++) {
                 int mid = (low + high) / 2;
                 int mark = numbers.top;
-                boolean unlike = numbers.compare(list.floorAt(a, mid), list.floorAt(b, mid)) != 0;
+                int first = list.knownFloor(a, mid);
+                boolean unlike = numbers.compare(first, list.knownFloor(b, mid)) != 0;
                 numbers.top = mark;
                 low = unlike ? low : mid + 1;
                 high = unlike ? mid : high;
