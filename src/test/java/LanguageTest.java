@@ -1,0 +1,103 @@
+import java.nio.charset.StandardCharsets;
+import java.nio.file.Files;
+import java.nio.file.Path;
+import java.util.regex.Matcher;
+import java.util.regex.Pattern;
+
+/** The rules of LANGUAGE.md that a look at the text of the program can check. */
+final class LanguageTest {
+    private static final Harness H = new Harness();
+    private static final String[] FACE = {"variables", "feed", "end", "solve", "place", "basis", "poly",
+        "stairs", "stair", "rest", "zeros", "form", "eliminant", "fraction", "real", "multiplicity",
+        "rank", "floor", "exact", "apart", "sign", "length", "letter", "status", "digest"};
+
+    public static void main(String[] args) throws Exception {
+        Path file = Path.of(System.getProperty("project"), "src/main/java/RealSolver.java");
+        String source = Files.readString(file, StandardCharsets.US_ASCII);
+        String code = source.replaceAll("(?s)/\\*.*?\\*/", "").replaceAll("//[^\n]*", "");
+        H.name("language");
+        words(code);
+        face(code);
+        methods(code);
+        reflection();
+        H.end();
+    }
+
+    private static int count(String code, String pattern) {
+        Matcher m = Pattern.compile(pattern).matcher(code);
+        int n = 0;
+        while (m.find()) {
+            n++;
+        }
+        return n;
+    }
+
+    private static void words(String code) {
+        String[] forbidden = {"throw", "throws", "try", "catch", "finally", "synchronized", "assert", "volatile",
+            "native", "while", "do", "BigInteger", "BigDecimal", "double", "float", "Thread", "Random",
+            "nanoTime", "currentTimeMillis", "hashCode", "toString", "Object", "System\\.(?!arraycopy)"};
+        for (String word : forbidden) {
+            H.due("uses of " + word, count(code, "\\b" + word + "(\\b|(?<=\\.))"), 0);
+        }
+        H.due("uses of Exact", count(code, "Exact\\("), 0);
+        H.due("lambdas and method references", count(code, "->|::"), 0);
+        H.due("imports", count(code, "\\bimport\\b"), 1);
+        H.due("the import", count(code, "import java\\.util\\.Arrays;"), 1);
+        H.due("package lines", count(code, "\\bpackage\\b"), 0);
+        H.due("string constants", count(code, "\""), 0);
+        H.due("static fields that are not final",
+                count(code, "\\bstatic (?!final)[\\w\\[\\]]+ \\w+( =|;)"), 0);
+        H.due("static blocks", count(code, "\\bstatic \\{"), 0);
+        H.due("classes, at most twelve", count(code, "\\bclass \\w+") <= 12, true);
+        H.due("inner classes that are not static",
+                count(code, "\\bclass \\w+") - 1, count(code, "static final class \\w+"));
+    }
+
+    private static void face(String code) {
+        for (String name : FACE) {
+            H.due("methods named " + name, count(code, "(?m)^    +[\\w\\[\\] ]+ " + name + "\\([^)]*\\) \\{"), 1);
+            H.due("public int " + name, count(code, "(?m)^    public int " + name + "\\("), 1);
+        }
+        H.due("public things", count(code, "\\bpublic\\b"), FACE.length + 2);
+        H.due("protected things", count(code, "\\bprotected\\b"), 0);
+    }
+
+    private static void methods(String code) {
+        String[] lines = code.split("\n");
+        Pattern head = Pattern.compile("^( ++)(?!return|else|if|for|new)[\\w\\[\\] ]+\\(([^)]*)\\) \\{$");
+        for (int i = 0; i < lines.length; i++) {
+            Matcher m = head.matcher(lines[i]);
+            if (!m.matches() || m.group(1).length() > 8) {
+                continue;
+            }
+            String close = m.group(1) + "}";
+            int end = i;
+            while (end < lines.length - 1 && !lines[end].equals(close)) {
+                end++;
+            }
+            H.due("method of at most sixty lines: " + lines[i], end - i + 1 <= 60, true);
+            H.due("method of at most seven parameters: " + lines[i], m.group(2).split(",").length <= 7, true);
+        }
+        for (String line : lines) {
+            H.due("line of at most 110 letters", line.length() <= 110, true);
+        }
+    }
+
+    private static void reflection() throws Exception {
+        Class<?> face = Class.forName("RealSolver");
+        H.due("methods that others see",
+                java.util.Arrays.stream(face.getDeclaredMethods())
+                        .filter(m -> !java.lang.reflect.Modifier.isPrivate(m.getModifiers())).count(),
+                FACE.length);
+        for (java.lang.reflect.Field f : face.getDeclaredFields()) {
+            H.due("private field " + f.getName(), java.lang.reflect.Modifier.isPrivate(f.getModifiers()), true);
+        }
+        for (Class<?> inner : face.getDeclaredClasses()) {
+            int own = 0;
+            for (java.lang.reflect.Field f : inner.getDeclaredFields()) {
+                own += java.lang.reflect.Modifier.isStatic(f.getModifiers()) ? 0 : 1;
+            }
+            H.due("some twenty fields at most in " + inner.getSimpleName(), own <= 20, true);
+        }
+    }
+}
