@@ -1,8 +1,18 @@
+import java.io.File;
+import java.io.PrintWriter;
+import java.io.StringWriter;
 import java.nio.charset.StandardCharsets;
 import java.nio.file.Files;
 import java.nio.file.Path;
+import java.util.ArrayList;
+import java.util.HashMap;
+import java.util.HashSet;
+import java.util.List;
+import java.util.Map;
+import java.util.Set;
 import java.util.regex.Matcher;
 import java.util.regex.Pattern;
+import java.util.spi.ToolProvider;
 
 /** The rules of LANGUAGE.md that a look at the text of the program can check. */
 final class LanguageTest {
@@ -20,6 +30,7 @@ final class LanguageTest {
         face(code);
         methods(code);
         reflection();
+        depth();
         H.end();
     }
 
@@ -99,5 +110,63 @@ final class LanguageTest {
             }
             H.due("some twenty fields at most in " + inner.getSimpleName(), own <= 20, true);
         }
+    }
+
+    /** How deep calls go, the face's own being the first: read off the compiled class. */
+    private static void depth() {
+        java.util.Optional<ToolProvider> javap = ToolProvider.findFirst("javap");
+        if (javap.isEmpty()) {
+            return;
+        }
+        File[] files = new File(System.getProperty("java.class.path")).listFiles(
+                (folder, name) -> name.matches("RealSolver(\\$\\w+)?\\.class"));
+        List<String> line = new ArrayList<>(List.of("-p", "-c"));
+        for (File file : files) {
+            line.add(file.getPath());
+        }
+        StringWriter out = new StringWriter();
+        javap.get().run(new PrintWriter(out), new PrintWriter(System.out), line.toArray(new String[0]));
+        Map<String, Set<String>> calls = calls(out.toString());
+        H.due("methods are found", calls.size() > 100, true);
+        for (String name : FACE) {
+            H.due("depth of " + name + " at most 8", depth("RealSolver." + name, calls, 0) <= 8, true);
+        }
+    }
+
+    private static Map<String, Set<String>> calls(String listing) {
+        Pattern type = Pattern.compile("^[\\w ]*class ([\\w$]+).*\\{");
+        Pattern method = Pattern.compile("^  [^ ].*?([\\w$]+)\\(.*\\);");
+        Pattern call = Pattern.compile("invoke.*// Method (?:([\\w$/]+)\\.)?\"?(\\w+)\"?:");
+        Map<String, Set<String>> calls = new HashMap<>();
+        String current = "";
+        String from = "";
+        for (String line : listing.split("\n")) {
+            Matcher t = type.matcher(line);
+            Matcher m = method.matcher(line);
+            Matcher c = call.matcher(line);
+            if (t.find()) {
+                current = t.group(1);
+            } else if (m.find()) {
+                from = current + "." + m.group(1);
+                calls.putIfAbsent(from, new HashSet<>());
+            } else if (c.find()) {
+                String to = c.group(1) == null ? current : c.group(1);
+                if (to.startsWith("RealSolver")) {
+                    calls.get(from).add(to + "." + c.group(2));
+                }
+            }
+        }
+        return calls;
+    }
+
+    private static int depth(String method, Map<String, Set<String>> calls, int open) {
+        if (open > 50) {
+            return 1000;
+        }
+        int deepest = 0;
+        for (String to : calls.getOrDefault(method, Set.of())) {
+            deepest = Math.max(deepest, depth(to, calls, open + 1));
+        }
+        return deepest + 1;
     }
 }
