@@ -73,6 +73,7 @@ public final class RealSolver {
         }
         solved = true;
         ideal.build(reader);
+        ideal.tidy();
         quotient.findStairs(variableCount);
         if (quotient.infinite) {
             return refuse(INFINITE);
@@ -88,7 +89,10 @@ public final class RealSolver {
         }
         points.fixForm();
         points.findFractions();
-        points.findReal();
+        for (int v = 0; v <= variableCount; v++) {
+            points.roots[v].isolate(points.eliminants[v]);
+            points.roots[v].separate();
+        }
         points.findMultiplicities();
         return answer(points.zeroCount());
     }
@@ -555,26 +559,22 @@ public final class RealSolver {
             return r;
         }
 
-        /** The quotient, cut off towards 0; 0 if the divisor is 0. */
+        /**
+         * The quotient, cut off towards 0, by Knuth's algorithm D; 0 if the divisor is 0. The
+         * remainder stands right behind it, until something else is written there.
+         */
         int quo(int a, int b) {
-            if (!fits(2 * sizeOf(a) + sizeOf(b) + 8)) {
-                return ZERO;
-            }
-            int q = divide(a, b);
-            top = next(q);
-            return q;
-        }
-
-        /** Writes the quotient and right behind it the remainder, by Knuth's algorithm D. */
-        private int divide(int a, int b) {
             int na = Math.abs(w[a]);
             int nb = Math.abs(w[b]);
+            if (!fits(2 * na + nb + 8)) {
+                return ZERO;
+            }
             int q = top;
             int[] v = w;
             if (nb == 0 || compareSizes(a, b) < 0) {
                 v[q] = 0;
                 System.arraycopy(v, a, v, q + 1, na + 1);
-                top = q + 2 + na;
+                top = q + 1;
                 return q;
             }
             int n = na - nb + 1;
@@ -605,7 +605,7 @@ public final class RealSolver {
             int r = q + 1 + n;
             int size = shiftBack(u, nb, r, shift);
             v[r] = v[a] < 0 ? -size : size;
-            top = r + 1 + size;
+            top = r;
             return q;
         }
 
@@ -679,10 +679,9 @@ public final class RealSolver {
                     combine(bx, x, by, y);
                 } else {
                     copy(y);
-                    int q = divide(x, y);
-                    int r = next(q);
-                    int n = 1 + w[r];
-                    System.arraycopy(w, r, w, q, n);
+                    int q = quo(x, y);
+                    int n = 1 + w[top];
+                    System.arraycopy(w, top, w, q, n);
                     top = q + n;
                 }
                 int moved = top - from;
@@ -1283,6 +1282,7 @@ public final class RealSolver {
             this.numbers = numbers;
         }
 
+        /** Finds a basis that need not be reduced yet. */
         void build(Reader reader) {
             numbers.top = Numbers.FIRST_FREE;
             count = 0;
@@ -1297,7 +1297,6 @@ public final class RealSolver {
                 removePair(p);
                 enter(reduce(f, 0));
             }
-            tidy();
         }
 
         private int fromReader(Reader reader, int i) {
@@ -1496,7 +1495,7 @@ public final class RealSolver {
         }
 
         /** Reduces the polynomial at the row's end, but for its first terms; takes out its content. */
-        private int reduce(int polynomial, int untouched) {
+        int reduce(int polynomial, int untouched) {
             int f = polynomial;
             int done = untouched;
             int usual = numbers.w[f + 1];
@@ -1581,7 +1580,7 @@ public final class RealSolver {
         }
 
         /** Keeps the live elements, the least first, reduced by one another, in the row's beginning. */
-        private void tidy() {
+        void tidy() {
             int mark = numbers.top;
             int kept = 0;
             for (int i = nextLive(-1); kept < MOST && i >= 0; kept++) {
@@ -1622,11 +1621,6 @@ public final class RealSolver {
             return best;
         }
 
-        /** A single power product, 1 being its divisor, reduced. */
-        int normalFormOf(int key) {
-            return reduce(single(key, 1), 0);
-        }
-
         int divisorOf(int f) {
             int t = f + 2;
             for (int i = 1; i < numbers.w[f]; i++) {
@@ -1646,11 +1640,16 @@ public final class RealSolver {
                 int next = i + 1 < terms ? reader.powers[i + 1] : 0;
                 int deepest = i + 1 < terms ? firstDifference(powers, next) : 0;
                 addInto(level[2], single(0, reader.coefficient[i]), 2);
-                for (int v = 2; v > deepest; v--) {
-                    raise(v, powerIn(powers, v));
-                    addInto(level[v - 1], level[v], v - 1);
+                for (int v = 2; v >= deepest; v--) {
+                    int times = powerIn(powers, v) - (v == deepest ? powerIn(next, v) : 0);
+                    for (int k = 0; k < times && numbers.w[level[v]] > 1; k++) {
+                        multiply(level[v], Powers.ofVariable(v + 1));
+                        level[v] = reduce(level[v], 0);
+                    }
+                    if (v > deepest) {
+                        addInto(level[v - 1], level[v], v - 1);
+                    }
                 }
-                raise(deepest, powerIn(powers, deepest) - powerIn(next, deepest));
                 for (int v = deepest + 1; v < 3; v++) {
                     level[v] = single(0, 0);
                 }
@@ -1667,7 +1666,7 @@ public final class RealSolver {
         }
 
         /** One term, if it is not 0, and the divisor 1. */
-        private int single(int key, int coefficient) {
+        int single(int key, int coefficient) {
             if (!numbers.fits(4 * TERM_WORDS)) {
                 return Numbers.NO_TERMS;
             }
@@ -1693,17 +1692,12 @@ public final class RealSolver {
             level[v] = moveDown(low, combine(low, fa, 0, high, fb, 0));
         }
 
-        /** Multiplies the row's last polynomial by a variable, times over, reducing it each time. */
-        private void raise(int v, int times) {
-            int variable = Powers.ofVariable(v + 1);
-            for (int i = 0; i < times && numbers.w[level[v]] > 1; i++) {
-                int f = level[v];
-                int t = f + 2;
-                for (int k = 1; k < numbers.w[f]; k++) {
-                    numbers.w[t] += variable;
-                    t = numbers.next(t + 1);
-                }
-                level[v] = reduce(f, 0);
+        /** Multiplies a polynomial that has a divisor by a power product. */
+        private void multiply(int f, int key) {
+            int t = f + 2;
+            for (int k = 1; k < numbers.w[f]; k++) {
+                numbers.w[t] += key;
+                t = numbers.next(t + 1);
             }
         }
     }
@@ -1803,7 +1797,7 @@ public final class RealSolver {
                         list[stair] = one;
                         list[DIVISOR] = one;
                     } else {
-                        spread(ideal.normalFormOf(key), list);
+                        spread(ideal.reduce(ideal.single(key, 1), 0), list);
                     }
                 }
             }
@@ -1872,14 +1866,13 @@ public final class RealSolver {
             }
         }
 
-        /** f without its repeated factors, and what is left of f when they are taken out. */
-        void splitRepeated(InT f, InT simple, InT repeated) {
+        /** The derivative: what f has in common with it are its repeated factors. */
+        InT slopeOf(InT f) {
             slope.degree = f.degree - 1;
             for (int i = 1; i <= f.degree; i++) {
                 slope.at[i - 1] = numbers.mul(f.at[i], numbers.of(i));
             }
-            gcd(f, slope, repeated);
-            quotient(f, repeated, simple);
+            return slope;
         }
 
         /** The greatest common divisor, primitive. */
@@ -2305,23 +2298,18 @@ public final class RealSolver {
             return met[r] && level[r] - k <= even;
         }
 
-        /** The sign of a polynomial that is not 0 at a zero. */
+        /** The sign of a polynomial at a zero, if what is known of the zero makes it clear. */
         int signAt(InT f, int r) {
-            int sign = Ring.UNKNOWN;
-            for (int i = 0; i < 40 && sign == Ring.UNKNOWN; i++) {
-                int mark = numbers.top;
-                int c = load(r);
-                if (met[r]) {
-                    sign = numbers.signOf(ring.value(f, c, level[r]));
-                } else {
-                    sign = ring.signOver(f, c, level[r]);
-                }
-                numbers.top = mark;
-                if (sign == Ring.UNKNOWN) {
-                    refine(r, level[r] + (8 << Math.min(i, 10)));
-                }
-            }
+            int mark = numbers.top;
+            int c = load(r);
+            int sign = met[r] ? numbers.signOf(ring.value(f, c, level[r])) : ring.signOver(f, c, level[r]);
+            numbers.top = mark;
             return sign;
+        }
+
+        /** A level at which more may be clear after so many trials. */
+        int finer(int r, int trials) {
+            return level[r] + (8 << Math.min(trials, 10));
         }
 
         /** Whether a zero is one of a divisor of the polynomial, too. */
@@ -2436,6 +2424,7 @@ public final class RealSolver {
         // Each pair of ZEROS is alike for at most two k: 36 pairs with two variables, one k each;
         // 28 pairs with three.
         static final int LAST_FORM = 60;
+        private static final int TRIALS = 40;
         private static final int FORM_DIVISOR = MOST_STAIRS * MOST_STAIRS;
         private static final int REPEATED = FORM_DIVISOR + 1;
         private static final int LIST = REPEATED + InT.ROOM;
@@ -2618,7 +2607,8 @@ public final class RealSolver {
             }
             int mark = numbers.top;
             findWhole(findRows());
-            ring.splitRepeated(whole, eliminants[v], repeated);
+            ring.gcd(whole, ring.slopeOf(whole), repeated);
+            ring.quotient(whole, repeated, eliminants[v]);
             numbers.settle(mark, eliminants[v].at, eliminants[v].degree + 1);
         }
 
@@ -2650,7 +2640,8 @@ public final class RealSolver {
                 int mark = numbers.top;
                 setForm(k);
                 findWhole(findRows());
-                ring.splitRepeated(whole, simple, repeated);
+                ring.gcd(whole, ring.slopeOf(whole), repeated);
+                ring.quotient(whole, repeated, simple);
                 if (simple.degree > eliminants[0].degree) {
                     formStep = k;
                     eliminants[0].set(simple);
@@ -2730,20 +2721,14 @@ public final class RealSolver {
             return numbers.mul(divisor, power);
         }
 
-        void findReal() {
-            for (int v = 0; v <= quotient.variableCount; v++) {
-                roots[v].isolate(eliminants[v]);
-                roots[v].separate();
-            }
-        }
-
         /** A zero of the repeated part has one more of it for each time that it comes up there. */
         void findMultiplicities() {
             int mark = numbers.top;
             Arrays.fill(multiple, 1);
             for (int i = 0; i < MOST_STAIRS && repeated.degree > 0; i++) {
                 whole.set(repeated);
-                ring.splitRepeated(whole, simple, repeated);
+                ring.gcd(whole, ring.slopeOf(whole), repeated);
+                ring.quotient(whole, repeated, simple);
                 for (int j = 0; j < realCount(); j++) {
                     if (roots[0].isRootOf(simple, j)) {
                         multiple[j]++;
@@ -2770,7 +2755,12 @@ public final class RealSolver {
                 int mid = (low + high) / 2;
                 int mark = numbers.top;
                 setDifference(v, mid);
-                boolean above = roots[0].signAt(simple, j) == slopeAt(j);
+                int sign = roots[0].signAt(simple, j);
+                for (int t = 0; t < TRIALS && sign == Ring.UNKNOWN; t++) {
+                    roots[0].refine(j, roots[0].finer(j, t));
+                    sign = roots[0].signAt(simple, j);
+                }
+                boolean above = sign == slopeAt(j);
                 numbers.top = mark;
                 low = above ? mid + 1 : low;
                 high = above ? high : mid;
@@ -2838,7 +2828,12 @@ public final class RealSolver {
             if (simple.degree > 0 && roots[0].isRootOf(simple, j)) {
                 return 0;
             }
-            return roots[0].signAt(whole, j) * slopeAt(j);
+            int sign = roots[0].signAt(whole, j);
+            for (int t = 0; t < TRIALS && sign == Ring.UNKNOWN; t++) {
+                roots[0].refine(j, roots[0].finer(j, t));
+                sign = roots[0].signAt(whole, j);
+            }
+            return sign == slopeAt(j) ? 1 : -1;
         }
     }
 }
