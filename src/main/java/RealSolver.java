@@ -1927,7 +1927,7 @@ public final class RealSolver {
         void quotient(InT f, InT g, InT result) {
             int low = g.degree;
             first.set(f);
-            result.degree = f.degree - low;
+            result.degree = low < 0 ? -1 : Math.max(-1, f.degree - low);
             for (int d = f.degree; d >= low && low >= 0; d--) {
                 int q = numbers.quo(first.at[d], g.at[low]);
                 for (int i = 0; i < low; i++) {
@@ -2465,7 +2465,7 @@ public final class RealSolver {
         }
 
         int zeroCount() {
-            return eliminants[0].degree;
+            return Math.max(0, eliminants[0].degree);
         }
 
         int realCount() {
@@ -2665,7 +2665,7 @@ public final class RealSolver {
                 System.arraycopy(row[i], 0, kept, i * MOST_STAIRS, quotient.count);
             }
             kept[FORM_DIVISOR] = divisor;
-            System.arraycopy(repeated.at, 0, kept, REPEATED, repeated.degree + 1);
+            System.arraycopy(repeated.at, 0, kept, REPEATED, Math.max(0, repeated.degree + 1));
             numbers.settle(mark, kept, LIST);
             System.arraycopy(kept, REPEATED, repeated.at, 0, InT.ROOM);
         }
