@@ -2421,8 +2421,8 @@ public final class RealSolver {
 
     /** ZEROS of a system that is not INFINITE, by the traces of what multiplies the STAIRS. */
     private static final class Points {
-        // Each pair of ZEROS is alike for at most two k: 36 pairs with two variables, one k each;
-        // 28 pairs with three.
+        // With two variables each of 36 pairs of ZEROS at most is alike for one k at most, with
+        // three each of 28 for two: some k up to 56 tells all apart.
         static final int LAST_FORM = 60;
         private static final int TRIALS = 40;
         private static final int FORM_DIVISOR = MOST_STAIRS * MOST_STAIRS;
