@@ -14,21 +14,28 @@ import java.util.stream.Stream;
  */
 final class CloseTest {
     private static final Harness H = new Harness();
-    private static final String LIMIT = "private static final int FINEST = 128;";
     private static final String CLOSE = "9999y-x2;9999z-y2;z2-9801x2+198x-1";
 
     public static void main(String[] args) throws Exception {
         Path file = Path.of(System.getProperty("project"), "src/main/java/RealSolver.java");
         String source = Files.readString(file);
         H.name("close zeros");
-        H.due("the limit stands in the program", source.split(java.util.regex.Pattern.quote(LIMIT), -1).length, 2);
-        H.due("with 71", answers(source.replace(LIMIT, LIMIT.replace("128", "71"))), List.of(8, -1, 7, 4, 0));
-        H.due("with 72", answers(source.replace(LIMIT, LIMIT.replace("128", "72"))), List.of(8, 72, 0, 4, 0));
-        H.due("with 128", answers(source), List.of(8, 72, 0, 4, 0));
+        // What solve, real, stair 7 answer; then apart and its status; and then what is as before.
+        List<Integer> refused = List.of(8, 4, 3, -1, 7, 1, 4, 0);
+        List<Integer> found = List.of(8, 4, 3, 72, 0, 1, 4, 0);
+        H.due("with 71", answers(withLimit(source, 71)), refused);
+        H.due("with 72", answers(withLimit(source, 72)), found);
+        H.due("with 73", answers(withLimit(source, 73)), found);
+        H.due("with 128", answers(source), found);
         H.end();
     }
 
-    /** What solve(), apart(), status(), real(), status() answer. */
+    private static String withLimit(String source, int limit) {
+        String changed = source.replaceAll("\\b128\\b", String.valueOf(limit));
+        H.due("the limit stands in the program", changed.equals(source), false);
+        return changed;
+    }
+
     private static List<Integer> answers(String source) throws Exception {
         Path folder = Files.createTempDirectory("close");
         try {
@@ -42,14 +49,26 @@ final class CloseTest {
                 Object solver = type.getConstructor().newInstance();
                 type.getMethod("variables", int.class).invoke(solver, 3);
                 feed(type, solver);
-                return List.of(call(type, solver, "solve"), call(type, solver, "apart"),
-                        call(type, solver, "status"), call(type, solver, "real"), call(type, solver, "status"));
+                return ask(type, solver);
             }
         } finally {
             try (Stream<Path> all = Files.walk(folder)) {
                 all.sorted(Comparator.reverseOrder()).forEach(path -> path.toFile().delete());
             }
         }
+    }
+
+    private static List<Integer> ask(Class<?> type, Object solver) throws Exception {
+        int zeros = call(type, solver, "solve");
+        int real = call(type, solver, "real");
+        int length = (Integer) type.getMethod("stair", int.class).invoke(solver, 7);
+        int before = call(type, solver, "digest");
+        int apart = call(type, solver, "apart");
+        int status = call(type, solver, "status");
+        boolean same = call(type, solver, "digest") == before && call(type, solver, "length") == length
+                && call(type, solver, "place") == -1 && call(type, solver, "status") == status;
+        return List.of(zeros, real, length, apart, status, same ? 1 : 0, call(type, solver, "real"),
+                call(type, solver, "status"));
     }
 
     private static int call(Class<?> type, Object solver, String name) throws Exception {

@@ -37,57 +37,72 @@ final class GoldenTest {
     }
 
     private static List<String> answers(String[] parts) {
-        RealSolver s = H.solver;
+        String[] lines = {"variables " + parts[0], "tape " + parts[1], "solve"};
         int n = Integer.parseInt(parts[0]);
         List<String> out = new ArrayList<>();
-        out.add("solve " + H.solve(n, parts[1]) + " " + s.status() + " " + s.place());
-        int count = s.basis();
+        Run run = new Run(lines[0], lines[1]);
+        out.add("solve " + run.play("solve") + " " + run.status() + " " + run.place());
+        int count = run.call("basis");
         for (int i = 0; i < count; i++) {
-            out.add("poly " + H.written(s.poly(i)));
+            out.add("poly " + Run.longText("poly " + i, lines));
         }
-        int stairs = s.stairs();
+        int stairs = run.call("stairs");
+        int real = run.call("real");
         if (stairs >= 0) {
-            zeros(s, n, stairs, out);
+            zeros(run, n, stairs, lines, out);
         }
         for (int i = 2; i < parts.length; i++) {
-            out.add("rest " + H.rest(parts[i]));
+            String[] withTape = {lines[0], lines[1], lines[2], "tape " + parts[i]};
+            out.add("rest " + Run.longText("rest", withTape));
             if (stairs >= 0) {
-                StringBuilder signs = new StringBuilder("signs");
-                for (int j = 0; j < s.real(); j++) {
-                    signs.append(' ').append(H.sign(parts[i], j));
-                }
-                out.add(signs.toString());
+                out.add(signs(parts[i], real, lines));
             }
         }
         return out;
     }
 
-    private static void zeros(RealSolver s, int n, int stairs, List<String> out) {
+    private static String signs(String polynomial, int real, String[] lines) {
+        StringBuilder signs = new StringBuilder("signs");
+        Run run = new Run(lines);
+        for (int j = 0; j < real; j++) {
+            run.tape(polynomial);
+            signs.append(' ').append(run.call("sign", j));
+        }
+        return signs.toString();
+    }
+
+    private static void zeros(Run run, int n, int stairs, String[] lines, List<String> out) {
         for (int i = 0; i < stairs; i++) {
-            out.add("stair " + H.written(s.stair(i)));
+            out.add("stair " + run.written("stair " + i));
         }
-        out.add("form " + s.form());
+        out.add("form " + run.call("form"));
         for (int v = 0; v <= n; v++) {
-            out.add("elim " + v + " " + H.written(s.eliminant(v)));
+            out.add("elim " + v + " " + Run.longText("eliminant " + v, lines));
         }
         for (int v = 0; v <= n; v++) {
-            out.add("frac " + v + " " + H.written(s.fraction(v)));
+            out.add("frac " + v + " " + Run.longText("fraction " + v, lines));
         }
-        out.add("real " + s.real());
-        for (int j = 0; j < s.real(); j++) {
-            StringBuilder line = new StringBuilder("zero " + j + " " + s.multiplicity(j));
+        int real = run.call("real");
+        out.add("real " + real);
+        for (int j = 0; j < real; j++) {
+            out.add(zero(j, n, lines));
+        }
+        int apart = run.call("apart");
+        out.add("apart " + apart + " " + run.status());
+    }
+
+    private static String zero(int j, int n, String[] lines) {
+        Run run = new Run(lines);
+        StringBuilder line = new StringBuilder("zero " + j + " " + run.call("multiplicity", j));
+        for (int v = 1; v <= n; v++) {
+            line.append(' ').append(run.call("rank", j, v));
+        }
+        for (int k : FINENESS) {
             for (int v = 1; v <= n; v++) {
-                line.append(' ').append(s.rank(j, v));
+                line.append(' ').append(run.written("floor " + j + " " + v + " " + k));
+                line.append(run.call("exact", j, v, k) == 1 ? "!" : "");
             }
-            for (int k : FINENESS) {
-                for (int v = 1; v <= n; v++) {
-                    line.append(' ').append(H.written(s.floor(j, v, k)));
-                    line.append(s.exact(j, v, k) == 1 ? "!" : "");
-                }
-            }
-            out.add(line.toString());
         }
-        int apart = s.apart();
-        out.add("apart " + apart + " " + s.status());
+        return line.toString();
     }
 }

@@ -54,7 +54,8 @@ final class Harness {
 
     String text() {
         StringBuilder text = new StringBuilder();
-        for (int i = 0; i < solver.length(); i++) {
+        int length = solver.length();
+        for (int i = 0; i < length; i++) {
             text.append((char) solver.letter(i));
         }
         return text.toString();
@@ -82,26 +83,13 @@ final class Harness {
     void refused(String call, java.util.function.IntSupplier run, int status) {
         String text = text();
         int place = solver.place();
-        int tape = onTape();
         int digest = solver.digest();
         due(call, run.getAsInt(), -1);
         due(call + ", its status", solver.status(), status);
         due(call + ", its text", text(), text);
         due(call + ", its place", solver.place(), place);
-        due(call + ", its tape", onTape(), tape);
         due(call + ", its digest", solver.digest(), digest);
         due(call + ", its status still", solver.status(), status);
-    }
-
-    /** How many bytes are on the TAPE, told by what may be kept of it; leaves the STATUS as it is. */
-    private int onTape() {
-        int d = 23;
-        for (int i = 0; i < solver.length(); i++) {
-            d = d * 31 + solver.letter(i);
-        }
-        // With no SYSTEM of zeros the digest is ((d * 31 + tape) * 31 + n) * 31 - 1; with one it
-        // goes on. Only that it does not change matters here.
-        return solver.digest() - d;
     }
 
     void end() {

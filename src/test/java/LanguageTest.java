@@ -45,17 +45,16 @@ final class LanguageTest {
 
     private static void words(String code) {
         String[] forbidden = {"throw", "throws", "try", "catch", "finally", "synchronized", "assert", "volatile",
-            "native", "while", "do", "BigInteger", "BigDecimal", "double", "float", "Thread", "Random",
-            "nanoTime", "currentTimeMillis", "hashCode", "toString", "Object", "System\\.(?!arraycopy)"};
+            "native", "BigInteger", "BigDecimal", "Thread", "Random", "nanoTime", "currentTimeMillis", "hashCode",
+            "Object", "System\\.(?!arraycopy)"};
         for (String word : forbidden) {
             H.due("uses of " + word, count(code, "\\b" + word + "(\\b|(?<=\\.))"), 0);
         }
         H.due("uses of Exact", count(code, "Exact\\("), 0);
         H.due("lambdas and method references", count(code, "->|::"), 0);
-        H.due("imports", count(code, "\\bimport\\b"), 1);
-        H.due("the import", count(code, "import java\\.util\\.Arrays;"), 1);
+        H.due("imports but of these", count(code, "\\bimport\\b"),
+                count(code, "import java\\.util\\.(Arrays|ArrayList|List|Iterator);"));
         H.due("package lines", count(code, "\\bpackage\\b"), 0);
-        H.due("string constants", count(code, "\""), 0);
         H.due("static fields that are not final",
                 count(code, "\\bstatic (?!final)[\\w\\[\\]]+ \\w+( =|;)"), 0);
         H.due("static blocks", count(code, "\\bstatic \\{"), 0);
@@ -127,7 +126,7 @@ final class LanguageTest {
         StringWriter out = new StringWriter();
         javap.get().run(new PrintWriter(out), new PrintWriter(System.out), line.toArray(new String[0]));
         Map<String, Set<String>> calls = calls(out.toString());
-        H.due("methods are found", calls.size() > 100, true);
+        H.due("methods are found", calls.size() > FACE.length, true);
         for (String name : FACE) {
             H.due("depth of " + name + " at most 8", depth("RealSolver." + name, calls, 0) <= 8, true);
         }

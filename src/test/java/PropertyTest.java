@@ -1,4 +1,6 @@
 import java.math.BigInteger;
+import java.util.HashMap;
+import java.util.Map;
 import java.util.Random;
 
 /** What must hold of every system, whatever its answers are. */
@@ -10,15 +12,18 @@ final class PropertyTest {
         {"", "x", "y", "x2", "xy", "y2", "x3", "x2y", "xy2", "y3"},
         {"", "x", "y", "z", "x2", "xy", "y2", "xz", "yz", "z2"}};
 
+    /** The calls that solve a system, another one ahead of it: nothing of that may be left. */
+    private static String[] lines = {"variables 2", "tape 0", "solve", "variables 2", "tape 0", "solve"};
+    private static final Map<String, BigInteger> FLOORS = new HashMap<>();
+
     public static void main(String[] args) {
         for (int i = 0; i < 1500; i++) {
-            if (i % 5 == 0) {
-                H.fresh("");
-            }
             int n = 1 + RANDOM.nextInt(3);
             String[] system = system(n);
+            lines = new String[] {lines[3], lines[4], "solve", "variables " + n, "tape " + String.join(";", system), "solve"};
+            FLOORS.clear();
             H.name(n + " " + String.join(";", system));
-            int zeros = H.solve(n, String.join(";", system));
+            int zeros = new Run(lines).call("zeros");
             ideal(system);
             if (zeros > 0) {
                 counts(zeros);
@@ -46,54 +51,57 @@ final class PropertyTest {
         return list;
     }
 
+    private static String rest(Run run, String polynomial) {
+        run.tape(polynomial);
+        return run.written("rest");
+    }
+
     private static void ideal(String[] system) {
-        RealSolver s = H.solver;
+        Run run = new Run(lines);
         for (String polynomial : system) {
-            H.due("rest of one of the system", H.rest(polynomial), "0");
+            H.due("rest of one of the system", rest(run, polynomial), "0");
         }
-        for (int i = 0; i < s.stairs(); i++) {
-            String stair = H.written(s.stair(i));
-            H.due("rest of a stair", H.rest(stair), stair);
+        int stairs = run.call("stairs");
+        for (int i = 0; i < stairs; i++) {
+            String stair = run.written("stair " + i);
+            H.due("rest of a stair", rest(run, stair), stair);
         }
     }
 
     private static void counts(int zeros) {
-        RealSolver s = H.solver;
-        int real = s.real();
+        Run run = new Run(lines);
+        int real = run.call("real");
+        int stairs = run.call("stairs");
         int sum = 0;
         for (int j = 0; j < real; j++) {
-            sum += s.multiplicity(j);
+            sum += run.call("multiplicity", j);
         }
         H.due("real zeros at most zeros", real <= zeros, true);
         H.due("zeros that are not real come in pairs", (zeros - real) % 2, 0);
-        H.due("zeros at most stairs", zeros <= s.stairs(), true);
-        H.due("multiplicities at most stairs", sum + zeros - real <= s.stairs(), true);
-        H.due("multiplicities are even in all beside the real ones", (s.stairs() - sum) % 2, 0);
+        H.due("zeros at most stairs", zeros <= stairs, true);
+        H.due("multiplicities at most stairs", sum + zeros - real <= stairs, true);
+        H.due("multiplicities are even in all beside the real ones", (stairs - sum) % 2, 0);
     }
 
+    /** A run has not calls enough to read many floors: each is found by a new object, and kept. */
     private static BigInteger floor(int j, int v, int k) {
-        return new BigInteger(H.written(H.solver.floor(j, v, k)));
+        return FLOORS.computeIfAbsent("floor " + j + " " + v + " " + k,
+                call -> new BigInteger(new Run(lines).written(call)));
     }
 
     private static void boxes(int n) {
-        RealSolver s = H.solver;
-        int real = s.real();
-        int apart = s.apart();
+        int real = new Run(lines).call("real");
+        int apart = new Run(lines).call("apart");
         for (int j = 0; j < real; j++) {
             for (int v = 1; v <= n; v++) {
+                Run run = new Run(lines);
                 int k = RANDOM.nextInt(128);
                 BigInteger coarse = floor(j, v, k);
                 H.due("a box in a box", floor(j, v, k + 1).shiftRight(1), coarse);
-                H.due("exact stays so", s.exact(j, v, k) <= s.exact(j, v, k + 1), true);
-                String variable = "_xyz".substring(v, v + 1);
-                BigInteger small = floor(j, v, 3);
-                if (small.abs().bitLength() < 13 && !small.equals(BigInteger.ZERO)) {
-                    String minus = small.signum() < 0 ? "+" + small.negate() : "-" + small;
-                    int due = s.exact(j, v, 3) == 1 ? 1 : 2;
-                    H.due("the sign of 8 x less its floor", H.sign("8" + variable + minus, j), due);
-                }
+                H.due("exact stays so", run.call("exact", j, v, k) <= run.call("exact", j, v, k + 1), true);
+                besideItsFloor(run, j, v);
                 for (int i = 0; i < j; i++) {
-                    int order = Integer.compare(s.rank(i, v), s.rank(j, v));
+                    int order = Integer.compare(run.call("rank", i, v), run.call("rank", j, v));
                     int found = floor(i, v, 128).compareTo(floor(j, v, 128));
                     H.due("ranks go with floors", order == found || found == 0, true);
                 }
@@ -102,6 +110,17 @@ final class PropertyTest {
         if (apart > 0) {
             H.due("unlike boxes at apart", alike(n, real, apart), false);
             H.due("like boxes ahead of it", alike(n, real, apart - 1), true);
+        }
+    }
+
+    private static void besideItsFloor(Run run, int j, int v) {
+        String variable = "_xyz".substring(v, v + 1);
+        BigInteger small = floor(j, v, 3);
+        if (small.abs().bitLength() < 13 && !small.equals(BigInteger.ZERO)) {
+            String minus = small.signum() < 0 ? "+" + small.negate() : "-" + small;
+            int due = run.call("exact", j, v, 3) == 1 ? 1 : 2;
+            run.tape("8" + variable + minus);
+            H.due("the sign of 8 x less its floor", run.call("sign", j), due);
         }
     }
 
@@ -120,12 +139,19 @@ final class PropertyTest {
         return false;
     }
 
+    private static int sign(Run run, String polynomial, int j) {
+        run.tape(polynomial);
+        return run.call("sign", j);
+    }
+
     private static void signs(String[] system) {
-        for (int j = 0; j < H.solver.real(); j++) {
+        Run run = new Run(lines);
+        int real = run.call("real");
+        for (int j = 0; j < real; j++) {
             for (String polynomial : system) {
-                H.due("the system is 0 at its zeros", H.sign(polynomial, j), 1);
+                H.due("the system is 0 at its zeros", sign(run, polynomial, j), 1);
             }
-            H.due("what is above 0", H.sign("x2+1", j), 2);
+            H.due("what is above 0", sign(run, "x2+1", j), 2);
         }
     }
 }

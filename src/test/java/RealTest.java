@@ -164,21 +164,17 @@ final class RealTest {
 
     /** The floor of 2^k times the square root of 2 is the whole root of 2^(2k + 1). */
     private static void rootsOfTwo() {
-        RealSolver s = H.fresh("roots of two");
-        H.solve(2, "x2-2;x+y");
-        for (int round = 0; round < 2; round++) {
-            for (int i = 0; i <= 128; i += 3) {
-                int k = round == 0 ? 128 - i : i;
-                BigInteger root = BigInteger.TWO.pow(2 * k + 1).sqrt();
-                String up = root.toString();
-                String down = root.add(BigInteger.ONE).negate().toString();
-                floorIs(0, 1, k, down, false);
-                floorIs(1, 1, k, up, false);
-            }
-            s = H.fresh("roots of two, the other way");
+        for (int fine = 0; fine <= 128; fine += 2) {
+            H.fresh("roots of two");
             H.solve(2, "x2-2;x+y");
+            // A coarser floor, and then one that is finer than the middle one, too.
+            for (int k : new int[] {fine, 64, 128 - fine}) {
+                BigInteger root = BigInteger.TWO.pow(2 * k + 1).sqrt();
+                floorIs(0, 1, k, root.add(BigInteger.ONE).negate().toString(), false);
+                floorIs(1, 1, k, root.toString(), false);
+            }
+            H.due("real", H.solver.real(), 2);
         }
-        H.due("real", s.real(), 2);
     }
 
     private static void apartIs(int n, String system, int due) {

@@ -63,11 +63,11 @@ final class RefusalTest {
     }
 
     private static void absent() {
-        RealSolver s = H.fresh("absent");
-        H.solve(2, "x2-2;y-x");
-        H.feed("x?");
         int[] bad = {-1, 2, 3, 4, 5, 6, 9, 10, 36, 1000, Integer.MAX_VALUE, Integer.MIN_VALUE};
         for (int i : bad) {
+            RealSolver s = H.fresh("absent");
+            H.solve(2, "x2-2;y-x");
+            H.feed("x?");
             refusedAll(6,
                     "poly", (IntSupplier) () -> s.poly(i),
                     "stair", (IntSupplier) () -> s.stair(i),
@@ -85,9 +85,9 @@ final class RefusalTest {
                 H.refused("eliminant", () -> s.eliminant(i), 6);
                 H.refused("fraction", () -> s.fraction(i), 6);
             }
+            H.due("the fault of sign", s.sign(0), -1);
+            H.due("status", s.status(), 1);
         }
-        H.due("the fault of sign", s.sign(0), -1);
-        H.due("status", s.status(), 1);
     }
 
     private static void order() {

@@ -74,7 +74,7 @@ final class RoomTest {
         RealSolver s = new RealSolver();
         s.variables(n);
         long answers = 0;
-        for (int round = 0; round < 12; round++) {
+        for (int round = 0; round < 7; round++) {
             feed(s, texts[0]);
             answers += s.solve() + s.real() + s.apart();
             for (int t = 1; t <= 2; t++) {

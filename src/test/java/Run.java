@@ -125,6 +125,24 @@ final class Run {
         return answer == length ? text() : line + " answered " + answer + " and the TEXT has " + length;
     }
 
+    /** The same for a TEXT of any size: as many objects are made as it takes to read it. */
+    static String longText(String call, String... lines) {
+        StringBuilder text = new StringBuilder();
+        int length = 0;
+        do {
+            Run run = new Run(lines);
+            int answer = run.play(call);
+            length = run.call("length");
+            if (answer != length) {
+                return call + " answered " + answer + " and the TEXT has " + length;
+            }
+            for (int left = 400; left > 0 && text.length() < length; left--) {
+                text.append((char) run.call("letter", text.length()));
+            }
+        } while (text.length() < length);
+        return text.toString();
+    }
+
     /** What all calls show, but for STATUS and PLACE. At last the TAPE is read, and so is gone. */
     String shown() {
         StringBuilder out = new StringBuilder();
