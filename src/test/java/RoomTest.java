@@ -5,6 +5,8 @@ final class RoomTest {
     private static final Harness H = new Harness();
     // A run may have 7.3 million fields and elements in all; most of those here have four bytes.
     private static final long MOST_BYTES = 4L * 3000000;
+    // To ask how much was made makes something, too.
+    private static final long OF_THE_MEASURE = 8000;
 
     public static void main(String[] args) {
         makeMany();
@@ -74,24 +76,58 @@ final class RoomTest {
         RealSolver s = new RealSolver();
         s.variables(n);
         long answers = 0;
+        long afterTwo = 0;
         for (int round = 0; round < 7; round++) {
-            feed(s, texts[0]);
-            answers += s.solve() + s.real() + s.apart();
-            for (int t = 1; t <= 2; t++) {
+            answers += round(s, n, texts);
+            afterTwo = round == 1 ? made() : afterTwo;
+        }
+        long end = made();
+        System.out.println(name + ": " + (end - before) + " bytes made");
+        H.due("made at most", end - before <= MOST_BYTES, true);
+        H.due("nothing is made when all rows have their sizes", end - afterTwo < OF_THE_MEASURE, true);
+        H.due("something was answered", answers != 0, true);
+        manyOfOneKind(name, n, texts);
+    }
+
+    private static long round(RealSolver s, int n, int[][] texts) {
+        feed(s, texts[0]);
+        long answers = s.solve() + s.real() + s.apart();
+        for (int t = 1; t <= 2; t++) {
+            feed(s, texts[t]);
+            answers += s.rest();
+            for (int j = 0; j < 3; j++) {
                 feed(s, texts[t]);
-                answers += s.rest();
-                for (int j = 0; j < 3; j++) {
-                    feed(s, texts[t]);
-                    answers += s.sign(j);
-                    answers += s.floor(j, 1, 128) + s.floor(j, n, 77) + s.rank(j, n);
+                answers += s.sign(j);
+                answers += s.floor(j, 1, 128) + s.floor(j, n, 77) + s.rank(j, n);
+            }
+            s.end(0);
+        }
+        return answers + s.digest();
+    }
+
+    /** As many calls of one kind as one object may have: what each needs is given back. */
+    private static void manyOfOneKind(String name, int n, int[][] texts) {
+        for (int kind = 0; kind < 4; kind++) {
+            H.name(name + ", calls of kind " + kind);
+            RealSolver s = new RealSolver();
+            s.variables(n);
+            feed(s, texts[0]);
+            s.solve();
+            long before = 0;
+            for (int i = 0; i < 150; i++) {
+                before = i == 10 ? made() : before;
+                if (kind < 2) {
+                    feed(s, texts[1]);
+                }
+                switch (kind) {
+                    case 0 -> s.rest();
+                    case 1 -> s.sign(0);
+                    case 2 -> s.floor(0, n, 128);
+                    default -> s.apart();
                 }
                 s.end(0);
             }
-            answers += s.digest();
+            H.due("nothing is made when all rows have their sizes", made() - before < OF_THE_MEASURE, true);
         }
-        long used = made() - before;
-        System.out.println(name + ": " + used + " bytes made");
-        H.due("made at most", used <= MOST_BYTES, true);
-        H.due("something was answered", answers != 0, true);
     }
 }
