@@ -20,9 +20,10 @@ final class PropertyTest {
         for (int i = 0; i < 1500; i++) {
             int n = 1 + RANDOM.nextInt(3);
             String[] system = system(n);
-            lines = new String[] {lines[3], lines[4], "solve", "variables " + n, "tape " + String.join(";", system), "solve"};
+            String text = String.join(";", system);
+            lines = new String[] {lines[3], lines[4], "solve", "variables " + n, "tape " + text, "solve"};
             FLOORS.clear();
-            H.name(n + " " + String.join(";", system));
+            H.name(n + " " + text);
             int zeros = new Run(lines).call("zeros");
             ideal(system);
             if (zeros > 0) {

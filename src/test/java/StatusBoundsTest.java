@@ -64,10 +64,12 @@ final class StatusBoundsTest {
                 H.due("status", run.status() != 0, true);
             }
         }
-        for (String then : new String[] {"solve", "rest", "sign 0"}) {
-            H.name("a refused call, then " + then);
-            due(new Run(POINT, "solve", "variables 9", "tape 1"), then, then.equals("solve") ? 0 : then.equals("rest") ? 1 : 2, 0);
-            due(new Run(POINT, "solve", "tape 1", "variables 9"), then, then.equals("solve") ? 0 : then.equals("rest") ? 1 : 2, 0);
+        String[] reading = {"solve", "rest", "sign 0"};
+        int[] answers = {0, 1, 2};
+        for (int i = 0; i < reading.length; i++) {
+            H.name("a refused call, then " + reading[i] + " of 1");
+            due(new Run(POINT, "solve", "variables 9", "tape 1"), reading[i], answers[i], 0);
+            due(new Run(POINT, "solve", "tape 1", "variables 9"), reading[i], answers[i], 0);
         }
         H.name("a call after an INFINITE one");
         Run run = new Run(LINE, "solve");

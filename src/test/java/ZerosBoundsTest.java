@@ -348,13 +348,15 @@ final class ZerosBoundsTest {
     private static void halfOpenBoxes() {
         for (int k : new int[] {0, 1, 2, 3, 127, 128}) {
             BigInteger one = BigInteger.ONE.shiftLeft(k);
-            // 1 itself, the least below it and the least above it that a NUMBER of four digits has
+            BigInteger below = one.multiply(BigInteger.valueOf(9998)).divide(BigInteger.valueOf(9999));
+            BigInteger above = one.multiply(BigInteger.valueOf(9999)).divide(BigInteger.valueOf(9998));
+            // 1 itself, the nearest below it and the nearest above it that NUMBERS of four digits have
             floor(solved(1, "x-1"), 1, k, one, true);
-            floor(solved(1, "9999x-9998"), 1, k, one.multiply(BigInteger.valueOf(9998)).divide(BigInteger.valueOf(9999)), false);
-            floor(solved(1, "9998x-9999"), 1, k, one.multiply(BigInteger.valueOf(9999)).divide(BigInteger.valueOf(9998)), false);
+            floor(solved(1, "9999x-9998"), 1, k, below, false);
+            floor(solved(1, "9998x-9999"), 1, k, above, false);
             floor(solved(1, "x+1"), 1, k, one.negate(), true);
-            floor(solved(1, "9998x+9999"), 1, k, one.multiply(BigInteger.valueOf(9999)).divide(BigInteger.valueOf(9998))
-                    .add(BigInteger.ONE).negate(), false);
+            floor(solved(1, "9999x+9998"), 1, k, below.add(BigInteger.ONE).negate(), false);
+            floor(solved(1, "9998x+9999"), 1, k, above.add(BigInteger.ONE).negate(), false);
             BigInteger root = BigInteger.TWO.pow(2 * k + 1).sqrt();
             Run run = solved(1, "x2-2");
             H.due("floor of the root", run.written("floor 1 1 " + k), root);

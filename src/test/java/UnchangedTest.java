@@ -8,13 +8,13 @@ import java.util.List;
  * SYSTEM, in every state, with numbers at the bounds, beside them and at the ends of int. What is
  * refused must leave all that other calls show as a second object shows it that was not asked.
  */
-final class RefusedTest {
+final class UnchangedTest {
     private static final Harness H = new Harness();
     private static final int LEAST = Run.LEAST;
     private static final int GREATEST = Run.GREATEST;
     private static final int BATCH = 30;
 
-    /** What a run of lines leads to; tape is how many bytes are left there by the lines. */
+    /** What a run of lines leads to, the TAPE being empty then. */
     private record State(int n, boolean solved, boolean infinite, int basis, int stairs, int real, int place,
             String... lines) {
     }
