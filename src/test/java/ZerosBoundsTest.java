@@ -310,6 +310,11 @@ final class ZerosBoundsTest {
         }
         run = solved(3, "z+9999;y-9999z2;x+9999y2");
         floor(run, 1, 128, great.shiftLeft(128).negate(), true);
+        // Floors that are carried over: of -(2^31 - 1/2), -(2^62 - 1/2), -(2^63 - 1/2)
+        String z = "z-9999-9999-9999-9999-9999-9999-5542;y-z2;";
+        carried(z + "2x+y-1", 31);
+        carried(z + "4x+y2-2", 62);
+        carried(z + "2x+y2-1", 63);
         run = solved(3, "9999z-1;9999y-z2;9999x-y2");
         floor(run, 1, 0, BigInteger.ZERO, false);
         floor(run, 1, 92, BigInteger.ZERO, false);
@@ -318,6 +323,17 @@ final class ZerosBoundsTest {
         run = solved(3, "9999z-1;9999y-z2;9999x+y2");
         floor(run, 1, 0, BigInteger.ONE.negate(), false);
         floor(run, 1, 128, BigInteger.ONE.shiftLeft(128).divide(great).add(BigInteger.ONE).negate(), false);
+    }
+
+    /** x is 1/2 above -2^bits. */
+    private static void carried(String system, int bits) {
+        Run run = solved(3, system);
+        BigInteger power = BigInteger.ONE.shiftLeft(bits);
+        floor(run, 1, 0, power.negate(), false);
+        floor(run, 1, 1, power.shiftLeft(1).subtract(BigInteger.ONE).negate(), true);
+        floor(run, 1, 128, power.shiftLeft(128).subtract(BigInteger.ONE.shiftLeft(127)).negate(), true);
+        floor(run, 1, 0, power.negate(), false);
+        due(run, "apart", 0, 0);
     }
 
     /** "Whether that is 2^k times the coordinate": not for k below, and from there on for all. */
