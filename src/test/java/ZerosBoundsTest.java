@@ -75,6 +75,9 @@ final class ZerosBoundsTest {
         // x 0, 4, 12 and y 0, 1, 4 differ by 1, 2, 3, 4 times as much.
         form(2, "x3-16x2+48x;y3-5y2+4y", 5);
         form(2, "x3-x;y3-y", 3);
+        // Seven points with y -1, 0, 1 whose x lie so that all forms up to 8, up to 11 have like values
+        form(2, "y3-y;-16y+32y2+4xy-10xy2-x2y;56-128y+248y2-22x-2xy-58xy2-5x2+x3", 9);
+        form(2, "2x3+12x2-2x-60-222y-486y2-19xy-107xy2;30y+66y2+11xy+17xy2+2x2y;y3-y", 12);
         form(2, "x2+1;y2+1", 2);
         form(2, "x2+1;y2-1", 1);
         form(3, "x;y;z", 0);
