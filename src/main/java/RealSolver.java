@@ -1354,7 +1354,6 @@ public final class RealSolver {
             at[h] = f;
             lead[h] = numbers.w[f + 2];
             if (lead[h] == 0) {
-                Arrays.fill(live, false);
                 pairs = 0;
             } else {
                 dropOldPairs(h);
@@ -2344,6 +2343,9 @@ public final class RealSolver {
 
         /** Of the space that the eliminants make of the STAIRS; -1 if the prime is of no use. */
         int rankOfRadical(InT[] eliminants, long p) {
+            if (p <= 0) {
+                return -1;
+            }
             int rank = 0;
             for (int i = 0; i < MOST_STAIRS; i++) {
                 Arrays.fill(reduced[i], 0);

@@ -14,7 +14,7 @@ import java.util.regex.Matcher;
 import java.util.regex.Pattern;
 import java.util.spi.ToolProvider;
 
-/** The rules of LANGUAGE.md that a look at the text of the program can check. */
+/** The rules of LANGUAGE.md that a look at the program, its text or what javac makes of it, can check. */
 final class LanguageTest {
     private static final Harness H = new Harness();
     private static final String[] FACE = {"variables", "feed", "end", "solve", "place", "basis", "poly",
@@ -30,7 +30,11 @@ final class LanguageTest {
         face(code);
         methods(code);
         reflection();
-        depth();
+        String listing = listing();
+        if (!listing.isEmpty()) {
+            library(listing);
+            depth(listing);
+        }
         H.end();
     }
 
@@ -111,11 +115,12 @@ final class LanguageTest {
         }
     }
 
-    /** How deep calls go, the face's own being the first: read off the compiled class. */
-    private static void depth() {
+    /** The compiled class as javap tells it; empty if this machine has no javap. */
+    private static String listing() {
         java.util.Optional<ToolProvider> javap = ToolProvider.findFirst("javap");
         if (javap.isEmpty()) {
-            return;
+            System.out.println("no javap here: the library and the depth of calls are not looked at");
+            return "";
         }
         File[] files = new File(System.getProperty("java.class.path")).listFiles(
                 (folder, name) -> name.matches("RealSolver(\\$\\w+)?\\.class"));
@@ -125,7 +130,31 @@ final class LanguageTest {
         }
         StringWriter out = new StringWriter();
         javap.get().run(new PrintWriter(out), new PrintWriter(System.out), line.toArray(new String[0]));
-        Map<String, Set<String>> calls = calls(out.toString());
+        return out.toString();
+    }
+
+    /** Rule 4: Arrays' methods over arrays of numbers alone (a row of booleans is none), and so on. */
+    private static void library(String listing) {
+        String listed = "java/lang/Object\\.\"<init>\":\\(\\)V"
+                + "|java/lang/(Integer|Long|Math)\\.(?!\\w*Exact:)\\w+:\\([IJ]*\\)[IJ]"
+                + "|java/lang/System\\.arraycopy:.*"
+                + "|java/util/Arrays\\.copyOf:\\(\\[([BSIJ])I\\)\\[\\2"
+                + "|java/util/Arrays\\.copyOfRange:\\(\\[([BSIJ])II\\)\\[\\3"
+                + "|java/util/Arrays\\.fill:\\(\\[([BSIJ])(II)?\\4\\)V";
+        Matcher used = Pattern.compile("// (?:Interface)?(?:Method|Field) (java\\S+)").matcher(listing);
+        int found = 0;
+        while (used.find()) {
+            found++;
+            H.due("rule 4 lists " + used.group(1), used.group(1).matches(listed), true);
+        }
+        H.due("uses of the library are found", found > 0, true);
+        H.due("rule 3: objects of the library's classes", count(listing, "// class java"), 0);
+        H.due("rule 2: lambdas", count(listing, "invokedynamic"), 0);
+    }
+
+    /** How deep calls go, the face's own being the first: read off the compiled class. */
+    private static void depth(String listing) {
+        Map<String, Set<String>> calls = calls(listing);
         H.due("methods are found", calls.size() > FACE.length, true);
         for (String name : FACE) {
             H.due("depth of " + name + " at most 8", depth("RealSolver." + name, calls, 0) <= 8, true);

@@ -9,6 +9,7 @@ final class ZerosBoundsTest {
     public static void main(String[] args) {
         howManyZeros();
         leastForm();
+        greatForms();
         eliminantBounds();
         eachValueOnce();
         noCommonFactor();
@@ -93,6 +94,54 @@ final class ZerosBoundsTest {
     private static void form(int n, String system, int k) {
         Run run = solved(n, system);
         due(run, "form", k, 0);
+    }
+
+    /** Points that lie so that each k but a great one has like values at two of them. */
+    private static void greatForms() {
+        points("2y3+xy+8y2;x2y+16xy2+22y3-xy-8y2+36y;4x3+67x2y+240xy2+74y3+48x2+385xy-64y2+108x-180y", 17,
+                new int[][] {{-42, 3}, {0, 0}, {6, -1}, {-10, 1}, {-9, 0}, {6, -3}, {-3, 0}});
+        points("x3+17x2y+72xy2+56y3+10x2+58xy+48y2;15x3+225x2y+688xy2-136y3+106x2+218xy-1248y2+264x;"
+                + "9x3+69x2y-256xy2-680y3+2x2+34xy+1152y2+2640x+6336y", 17,
+                new int[][] {{0, 0}, {54, -6}, {-10, 2}, {2, -2}, {32, -4}, {2, -1}, {18, -3}});
+        points("yz-y;4xz-y2+36z2;4xz-y2+36z;x2+20xy-413xz+238y2+720yz+36z2+5x+720y+36z", 21,
+                new int[][] {{16, -10, 1}, {216, -30, 1}, {0, 0, 0}, {-5, 0, 0}, {0, -6, 1}, {280, -34, 1}});
+        points("xy+20xz+10y2+380yz+3600z2;131xy+2420xz+210y2+3510yz+270y;"
+                + "9x2+4xy-1691xz+330y2+2430yz+693x+3510y;3xy+60xz+30y2+600yz+540y+9999z+801z", 21,
+                new int[][] {{40, -22, 1}, {0, -18, 1}, {-96, 20, -1}, {-77, 0, 0}, {180, -60, 3}, {0, 0, 0}});
+    }
+
+    /** All ZEROS are given: they come in the order of their values, with their coordinates. */
+    private static void points(String system, int k, int[][] points) {
+        int n = points[0].length;
+        H.due("the least k of the points", leastForm(points), k);
+        Run run = solved(n, system);
+        due(run, "zeros", points.length, 0);
+        due(run, "form", k, 0);
+        due(run, "real", points.length, 0);
+        int[][] inOrder = points.clone();
+        java.util.Arrays.sort(inOrder, (p, q) -> Integer.compare(value(p, k), value(q, k)));
+        for (int j = 0; j < points.length; j++) {
+            for (int v = 1; v <= n; v++) {
+                H.due("zero " + j + ", coordinate " + v, run.written("floor " + j + " " + v + " 0"), inOrder[j][v - 1]);
+                due(run, "exact " + j + " " + v + " 0", 1, 0);
+            }
+        }
+    }
+
+    private static int leastForm(int[][] points) {
+        for (int k = 0;; k++) {
+            java.util.Set<Integer> values = new java.util.HashSet<>();
+            for (int[] point : points) {
+                values.add(value(point, k));
+            }
+            if (values.size() == points.length) {
+                return k;
+            }
+        }
+    }
+
+    private static int value(int[] point, int k) {
+        return point[0] + k * point[1] + (point.length > 2 ? k * k * point[2] : 0);
     }
 
     /** "The ELIMINANT of the FORM (v 0), of a VARIABLE (1 to 3)": the VARIABLES that there are. */
