@@ -19,26 +19,34 @@ final class LongTextTest {
         rest(1, sextic, "-7x9x8+x5", 300, new int[][] {{-7, 17, 0, 0}, {1, 5, 0, 0}});
         String cubics = dense(2, 1) + ";" + dense(2, 2);
         rest(2, dense(2, 3), "x9x9x2", 4096, new int[][] {{1, 20, 0, 0}});
-        rest(2, cubics, "y9y9y2", 4096, new int[][] {{1, 0, 20, 0}});
-        rest(2, cubics, "x9xy9y-9999x9x9+1", 4096, new int[][] {{1, 10, 10, 0}, {-9999, 18, 0, 0}, {1, 0, 0, 0}});
+        rest(2, cubics, "y9y9y2", 3800, new int[][] {{1, 0, 20, 0}});
+        rest(2, cubics, "x9xy9y-9999x9x9+1", 3800, new int[][] {{1, 10, 10, 0}, {-9999, 18, 0, 0}, {1, 0, 0, 0}});
         String quadrics = dense(3, 4) + ";" + dense(3, 5);
         rest(3, dense(3, 6), "x9x9x2", 1 << 15, new int[][] {{1, 20, 0, 0}});
+        rest(3, dense(3, 8, 10), "x9x9x2", 40000, new int[][] {{1, 20, 0, 0}});
         rest(3, quadrics, "y9y9y2", 1 << 14, new int[][] {{1, 0, 20, 0}});
         rest(3, quadrics + ";" + dense(3, 7), "z9z9z2", 7000, new int[][] {{1, 0, 0, 20}});
         rest(3, quadrics + ";" + dense(3, 7), "-3x7y7z6+x9x9z2", 7000, new int[][] {{-3, 7, 7, 6}, {1, 18, 0, 2}});
         H.end();
     }
 
-    /** A polynomial with all TERMS that there may be, and NUMBERS of four digits. */
     private static String dense(int n, int seed) {
+        return dense(n, seed, 1);
+    }
+
+    /** Has all power products that there may be, each with some like TERMS of four digits. */
+    private static String dense(int n, int seed, int likeTerms) {
         int most = n == 2 ? 3 : 2;
         int state = seed;
         StringBuilder text = new StringBuilder();
         for (int x = 0; x <= most; x++) {
             for (int y = 0; x + y <= most; y++) {
                 for (int z = 0; z <= (n == 3 ? most - x - y : 0); z++) {
-                    state = state * 1103515245 + 12345;
-                    text.append(state < 0 ? '-' : '+').append(4000 + (state >>> 16) % 6000).append(new Product(x, y, z));
+                    for (int i = 0; i < likeTerms; i++) {
+                        state = state * 1103515245 + 12345;
+                        char sign = (seed + x * y + z) % 3 == 0 ? '-' : '+';
+                        text.append(sign).append(4000 + (state >>> 16) % 6000).append(new Product(x, y, z));
+                    }
                 }
             }
         }

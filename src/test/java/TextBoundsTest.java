@@ -144,6 +144,7 @@ final class TextBoundsTest {
     /** "then / and the divisor (above 0), which is left out, with its /, if it is 1" */
     private static void divisorOne() {
         rest(1, "2x-1", "2x", "1");
+        rest(2, "3x2-y;y2-2", "x2y+x", "3x+2/3");
         rest(1, "2x-1", "x", "1/2");
         rest(1, "2x+1", "x", "-1/2");
         rest(1, "-2x-1", "x", "-1/2");

@@ -14,6 +14,7 @@ final class ZerosBoundsTest {
         eachValueOnce();
         noCommonFactor();
         fractionBounds();
+        quotientOfManyOnes();
         realOrNot();
         multiplicityBounds();
         rankBounds();
@@ -211,6 +212,20 @@ final class ZerosBoundsTest {
         fractions(1, "x2-1", "2t", "2");
         fractions(1, "x3-x2", "3t-2", "t");
         fractions(1, "x2+1", "2t", "-2");
+    }
+
+    /**
+     * Of a t^3 + t^2 + t + c W 1 is -t^2 - 2t - 3c. With these a, and 2^62 - 1 for 3c, that is found by
+     * a division by a^4 in which a digit that is guessed from the leading words is too great by 1.
+     */
+    private static void quotientOfManyOnes() {
+        String third = "+9999y3+2298y3" + "+9999y2".repeat(4) + "+1473y2+6182y+9999+9999+9303";
+        for (int a : new int[] {2692, 2694, 2700}) {
+            String lead = "9999x3+".repeat(9) + a + "x3";
+            int sum = 9 * 9999 + a;
+            fractions(2, "y" + "-9999".repeat(5) + "-5;" + lead + "+x2+x" + third, 3 * sum + "t2+2t+1",
+                    "-t2-2t-4611686018427387903", 150000L * sum + "t2+100000t+50000");
+        }
     }
 
     private static void fractions(int n, String system, String... due) {
