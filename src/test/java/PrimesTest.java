@@ -14,6 +14,7 @@ final class PrimesTest {
         leadingNumber();
         unlikeByThePrime();
         nilpotentTimesThePrime();
+        nilpotentAndGreaterForm();
         H.end();
     }
 
@@ -76,5 +77,20 @@ final class PrimesTest {
         H.due("multiplicity of 0", run.play("multiplicity 0"), 2);
         H.due("multiplicity of the other", run.play("multiplicity 1"), 1);
         H.due("its y", run.written("floor 1 2 0"), PRIME);
+    }
+
+    /** So is y y y - p p y with (0, 0) and (p, -p) and (p, p), which the forms 0 and 1 do not tell apart. */
+    private static void nilpotentAndGreaterForm() {
+        Run run = solved(3, "z" + PART + ";y2" + minus(times("x", 'z')) + ";x2" + minus(times("x", 'z')), 3);
+        H.due("stairs", run.play("stairs"), 4);
+        H.due("form", run.play("form"), 2);
+        H.due("eliminant of x", run.written("eliminant 1"), "t2-" + PRIME + "t");
+        H.due("eliminant of y", run.written("eliminant 2"), "t3-" + PRIME * PRIME + "t");
+        long[][] points = {{PRIME, -PRIME, 1}, {0, 0, 2}, {PRIME, PRIME, 1}};
+        for (int j = 0; j < points.length; j++) {
+            H.due("x of " + j, run.written("floor " + j + " 1 0"), points[j][0]);
+            H.due("y of " + j, run.written("floor " + j + " 2 0"), points[j][1]);
+            H.due("multiplicity of " + j, run.play("multiplicity " + j), points[j][2]);
+        }
     }
 }
