@@ -49,6 +49,13 @@ final class PrimesTest {
         run = solved(2, "x" + PART + ";" + times("y2", 'x') + "-1", 2);
         H.due("form", run.play("form"), 1);
         H.due("eliminant of y", run.written("eliminant 2"), PRIME + "t2-1");
+        // p x - 1 is y, whose square is 0: the ZERO counts twice, and its x is a zero of p p t t - 2 p t + 1.
+        run = solved(3, "z" + PART + ";y2;" + times("x", 'z') + "-1-y", 1);
+        H.due("stairs", run.play("stairs"), 2);
+        H.due("eliminant of x", run.written("eliminant 1"), PRIME + "t-1");
+        H.due("eliminant of the form", run.written("eliminant 0"), PRIME + "t-1");
+        H.due("W 0", run.written("fraction 0"), 2 * PRIME);
+        H.due("multiplicity", run.play("multiplicity 0"), 2);
     }
 
     private static void unlikeByThePrime() {
